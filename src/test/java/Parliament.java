@@ -1,0 +1,82 @@
+/** Makes objects for the tests. */
+final class Parliament {
+    private Parliament() {
+    }
+
+    /** A new object with districts of these sizes, and a row of votes for each of them. */
+    static TwoWaySeats of(int[] sizes, int[][] votes) {
+        TwoWaySeats x = new TwoWaySeats();
+        for (int size : sizes) {
+            x.district(size);
+        }
+        for (int p = 0; p < votes[0].length; p++) {
+            x.party();
+        }
+        for (int d = 0; d < votes.length; d++) {
+            for (int p = 0; p < votes[d].length; p++) {
+                x.votes(d, p, votes[d][p]);
+            }
+        }
+        return x;
+    }
+
+    /** One district with a party for each of the numbers of votes. */
+    static TwoWaySeats single(int size, int... votes) {
+        return of(new int[] {size}, new int[][] {votes});
+    }
+
+    static void propose(TwoWaySeats x, int[][] table) {
+        for (int d = 0; d < table.length; d++) {
+            for (int p = 0; p < table[d].length; p++) {
+                x.propose(d, p, table[d][p]);
+            }
+        }
+    }
+
+    /** The shares of all parties as a text. */
+    static String shares(TwoWaySeats x) {
+        StringBuilder text = new StringBuilder();
+        for (int p = 0; p < x.count(true); p++) {
+            text.append(p > 0 ? " " : "").append(x.share(p));
+        }
+        return text.toString();
+    }
+
+    /** Which parties are tied. */
+    static String ties(TwoWaySeats x) {
+        StringBuilder text = new StringBuilder();
+        for (int p = 0; p < x.count(true); p++) {
+            text.append(x.tied(p) ? "1" : "0");
+        }
+        return text.toString();
+    }
+
+    /** The first table, or the last one, as a text. */
+    static String table(TwoWaySeats x, boolean last) {
+        StringBuilder text = new StringBuilder();
+        for (int d = 0; d < x.count(false); d++) {
+            text.append(d > 0 ? " / " : "");
+            for (int p = 0; p < x.count(true); p++) {
+                text.append(p > 0 ? " " : "").append(x.seats(d, p, last));
+            }
+        }
+        return text.toString();
+    }
+
+    static String number(TwoWaySeats x, boolean party, int k) {
+        return x.number(party, k, false) + "/" + x.number(party, k, true);
+    }
+
+    /** The districts, then the parties of the block. */
+    static String block(TwoWaySeats x) {
+        StringBuilder text = new StringBuilder();
+        for (int d = 0; d < x.count(false); d++) {
+            text.append(x.blocks(false, d) ? "1" : "0");
+        }
+        text.append(' ');
+        for (int p = 0; p < x.count(true); p++) {
+            text.append(x.blocks(true, p) ? "1" : "0");
+        }
+        return text.toString();
+    }
+}
