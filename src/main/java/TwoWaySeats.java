@@ -359,10 +359,9 @@ public final class TwoWaySeats {
             return false;
         }
 
-        /** Whether the last seat of one party has as good a claim as the next one of the other. */
+        /** Both sides are above 0, since a party that was given a seat has a weight. */
         private boolean couldPass(int from, int to) {
-            return given[from] > 0 && weight[from] > 0
-                    && weight[from] * (2 * given[to] + 1) == weight[to] * (2 * given[from] - 1);
+            return given[from] > 0 && weight[from] * (2 * given[to] + 1) == weight[to] * (2 * given[from] - 1);
         }
     }
 
@@ -430,32 +429,25 @@ public final class TwoWaySeats {
             return near;
         }
 
-        /** Each seat is placed along the best ways there are, which leaves no ring with a gain above 1. */
+        /** Each seat goes along the best ways from its district, which leaves no ring with a gain above 1. */
         private void fill(Election election, Shares shares) {
             Arrays.fill(first, 0);
-            int all = election.allSeats();
-            for (int seat = 0; seat < all; seat++) {
-                search.clear();
-                for (int d = 0; d < SIDE; d++) {
-                    if (districtSum(first, d) < election.size[d]) {
-                        search.start(d);
-                    }
+            for (int d = 0; d < election.districts; d++) {
+                for (int seat = 0; seat < election.size[d]; seat++) {
+                    searchFrom(d, election.counted, first, 0);
+                    search.goAlong(first, openParty(shares));
                 }
-                search.spread(election.counted, first, 0);
-                search.goAlong(first, bestOpenParty(shares));
             }
         }
 
-        private int bestOpenParty(Shares shares) {
-            int best = Ways.NOWHERE;
+        /** Any party that has not its share yet will do: in the end all have it. */
+        private int openParty(Shares shares) {
             for (int p = 0; p < SIDE; p++) {
-                int node = SIDE + p;
-                boolean open = partySum(first, p) < shares.given[p] && search.isReached(node);
-                if (open && (best == Ways.NOWHERE || search.isAhead(node, best))) {
-                    best = node;
+                if (partySum(first, p) < shares.given[p] && search.isReached(SIDE + p)) {
+                    return SIDE + p;
                 }
             }
-            return best;
+            return Ways.NOWHERE;
         }
 
         /**
@@ -466,7 +458,7 @@ public final class TwoWaySeats {
             for (int list = 0; list < LISTS; list++) {
                 if (votes[list] > 0) {
                     int district = list / SIDE;
-                    searchBehind(list, SIDE + list % SIDE, votes, first);
+                    searchFrom(SIDE + list % SIDE, votes, first, list + 1);
                     if (search.above[district] * votes[list] == search.below[district] * (2 * first[list] + 1)) {
                         search.goAlong(first, district);
                         first[list]++;
@@ -480,7 +472,7 @@ public final class TwoWaySeats {
             for (int list = 0; list < LISTS; list++) {
                 if (last[list] > 0) {
                     int party = SIDE + list % SIDE;
-                    searchBehind(list, list / SIDE, votes, last);
+                    searchFrom(list / SIDE, votes, last, list + 1);
                     if (search.above[party] * (2 * last[list] - 1) == search.below[party] * votes[list]) {
                         search.goAlong(last, party);
                         last[list]--;
@@ -489,10 +481,10 @@ public final class TwoWaySeats {
             }
         }
 
-        private void searchBehind(int list, int start, int[] votes, int[] table) {
+        private void searchFrom(int start, int[] votes, int[] table, int fromList) {
             search.clear();
             search.start(start);
-            search.spread(votes, table, list + 1);
+            search.spread(votes, table, fromList);
         }
 
         private void findNumbers(Election election) {
@@ -532,10 +524,6 @@ public final class TwoWaySeats {
 
         boolean isReached(int node) {
             return above[node] > 0;
-        }
-
-        boolean isAhead(int node, int other) {
-            return Fractions.isGreater(above[node], below[node], above[other], below[other]);
         }
 
         /** Uses the ways of the lists from the given one on, round by round, until nothing grows. */
