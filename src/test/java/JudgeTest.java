@@ -53,9 +53,9 @@ public final class JudgeTest {
                 new int[][] {{1, 2, 0, 0}, {0, 1, 2, 0}, {0, 0, 1, 2}, {2, 0, 0, 1}});
         verdict("a ring of four", 4, four, new int[][] {{1, 0, 0, 0}, {0, 1, 0, 0}, {0, 0, 1, 0}, {0, 0, 0, 1}});
         verdict("no ring of four", 0, four, new int[][] {{0, 1, 0, 0}, {0, 0, 1, 0}, {0, 0, 0, 1}, {1, 0, 0, 0}});
-        // The product of four such factors is above 1 by less than a millionth of a millionth.
+        // The gain is 50117727616 / 50117727615.
         TwoWaySeats near = Parliament.of(new int[] {1, 1, 1, 1},
-                new int[][] {{499, 500, 0, 0}, {0, 500, 499, 0}, {0, 0, 498, 500}, {500, 0, 0, 499}});
+                new int[][] {{445, 463, 0, 0}, {0, 471, 464, 0}, {0, 0, 487, 482}, {484, 0, 0, 491}});
         Check.due("9: shares", "1 1 1 1", () -> Parliament.shares(near));
         verdict("a small gain", 4, near, new int[][] {{1, 0, 0, 0}, {0, 1, 0, 0}, {0, 0, 1, 0}, {0, 0, 0, 1}});
         verdict("no gain", 0, near, new int[][] {{0, 1, 0, 0}, {0, 0, 1, 0}, {0, 0, 0, 1}, {1, 0, 0, 0}});
@@ -73,9 +73,8 @@ public final class JudgeTest {
         x.votes(0, 0, 9);
         Check.due("9: shares", "1 1", () -> Parliament.shares(x));
         Check.due("17: the proposal stays", 0, x::judge);
-        // No table between obeys: neither is the first nor the last one, though each list is as in one of them.
         TwoWaySeats three = Parliament.of(new int[] {1, 1, 1}, new int[][] {{4, 4, 4}, {4, 4, 4}, {4, 4, 4}});
-        verdict("between", 0, three, new int[][] {{0, 1, 0}, {1, 0, 0}, {0, 0, 1}});
+        verdict("neither the first nor the last", 0, three, new int[][] {{0, 1, 0}, {1, 0, 0}, {0, 0, 1}});
     }
 
     private static void out() {

@@ -71,6 +71,12 @@ public final class SolveTest {
         x.solve();
         Check.due("12: only one left", "0 1 0 0 / 0 0 1 0 / 0 0 0 1 / 1 0 0 0", () -> Parliament.table(x, false));
         Check.due("13: unique", true, x::unique);
+        // The ring's gain is 50117727616 / 50117727615.
+        TwoWaySeats near = Parliament.of(new int[] {1, 1, 1, 1},
+                new int[][] {{445, 463, 0, 0}, {0, 471, 464, 0}, {0, 0, 487, 482}, {484, 0, 0, 491}});
+        Check.due("11: nearly a tie", true, near::solve);
+        Check.due("12: nearly a tie", "0 1 0 0 / 0 0 1 0 / 0 0 0 1 / 1 0 0 0", () -> Parliament.table(near, false));
+        Check.due("13: nearly a tie", true, near::unique);
     }
 
     private static void numbers() {
