@@ -67,6 +67,27 @@ final class Parliament {
         return x.number(party, k, false) + "/" + x.number(party, k, true);
     }
 
+    /** All that can be asked without solving, in some 70 calls. */
+    static String everything(TwoWaySeats x) {
+        StringBuilder text = new StringBuilder();
+        text.append(x.count(false)).append(' ').append(x.count(true)).append(' ').append(Check.answer(x::judge));
+        text.append(' ').append(Check.answer(x::unique));
+        for (int k = 0; k < 4; k++) {
+            int at = k;
+            text.append(' ').append(Check.answer(() -> x.share(at))).append(' ').append(Check.answer(() -> x.tied(at)));
+            for (int p = 0; p < 4; p++) {
+                int party = p;
+                text.append(' ').append(Check.answer(() -> x.seats(at, party, false)));
+                text.append(' ').append(Check.answer(() -> x.seats(at, party, true)));
+            }
+            for (boolean party : new boolean[] {false, true}) {
+                text.append(' ').append(Check.answer(() -> number(x, party, at)));
+                text.append(' ').append(Check.answer(() -> x.blocks(party, at)));
+            }
+        }
+        return text.toString();
+    }
+
     /** The districts, then the parties of the block. */
     static String block(TwoWaySeats x) {
         StringBuilder text = new StringBuilder();
